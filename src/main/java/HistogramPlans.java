@@ -383,6 +383,7 @@ public final class HistogramPlans {
         if (!isSet(set) || !isOrder(order)) {
             return refuseTenLower(WRONG);
         }
+        thoughts.think();
         planner.search(set);
         int cell = cellOf(set, order);
         return planner.way[cell] == NONE ? NONE : bitsOf(planner.best[cell]);
@@ -392,6 +393,7 @@ public final class HistogramPlans {
         if (!isSet(set) || !isOrder(order)) {
             return refuse(WRONG);
         }
+        thoughts.think();
         planner.search(set);
         int cell = cellOf(set, order);
         if (planner.way[cell] == NONE) {
@@ -984,8 +986,8 @@ public final class HistogramPlans {
             this.thoughts = thoughts;
         }
 
+        /** Goes behind think(). */
         void search(int whole) {
-            thoughts.think();
             for (int set = 1; set <= whole; set++) {
                 if ((set & whole) == set) {
                     searchSet(set);

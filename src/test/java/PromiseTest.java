@@ -952,7 +952,36 @@ public final class PromiseTest {
             Due.is("wrongBy: set", -6, x.wrongBy(set));
         }
         Due.is("wrongBy: too many", -5, crowd(16).wrongBy(31));
+        Due.bits("wrongBy: 100,000 are not too many", 1f, crowd(10).wrongBy(31));
         oneIsNone();
+        thinnerAndThinner();
+    }
+
+    /** What is left of 1 is a rounding here: filter by filter the thought goes down to the least floats, then to 0. */
+    private static void thinnerAndThinner() {
+        int[] values = {4, 8, 9, 9, 12, 12, 13, 14, 17, 19, 21, 23};
+        HistogramPlans x = new HistogramPlans();
+        for (int v : values) {
+            x.line(0, v, 0, 0);
+        }
+        x.put(0, 0, 1);
+        float left = 1f - ((12f * (18f / 20f)) / 12f + (12f / 10f) / 12f);
+        Due.bits("share: a rounding is left", 1f / (1 << 24), Float.floatToIntBits(left));
+        Due.bits("share greater: a rounding", left, x.share(0, 2, 22));
+        float thought = 12f;
+        for (int filters = 1; filters <= 8; filters++) {
+            x.filter(0, 2, 22);
+            thought = thought * left;
+            Due.bits("thought by " + filters + " filters", thought, x.thought(1));
+            Due.is("really by " + filters + " filters", 1, x.really(1));
+            Due.bits("wrongBy by " + filters + " filters", thought == 0f ? 0f : 1f / thought, x.wrongBy(1));
+        }
+        Due.bits("thought: none is left", 0f, x.thought(1));
+        x.clear();
+        for (int filters = 0; filters < 6; filters++) {
+            x.filter(0, 2, 22);
+        }
+        Due.bits("wrongBy: above all floats", Float.POSITIVE_INFINITY, x.wrongBy(1));
     }
 
     private static void oneIsNone() {
