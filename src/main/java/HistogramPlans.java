@@ -28,7 +28,6 @@ public final class HistogramPlans {
     private static final int LOOP = 2;
     private static final int MERGE = 3;
     private static final int SORT = 4;
-    private static final int WAYS = 5;
     /** A tree over 5 TABLES has 9 sets, and each may be sorted for: 18. */
     private static final int MOST_NODES = 18;
     private static final int MOST_ROWS = 100000;
