@@ -208,9 +208,11 @@ public final class ImageBoundsTest extends Bounds {
         x.put(4, 1, 1);
         x.clear();
         x.empty(0);
-        x.line(0, 1, 1, 1);
-        x.filter(14, 2, 1);
-        x.join(1, 13);
+        fill(x, 0, 16);
+        for (int i = 0; i < 8; i++) {
+            x.filter(14, (i + 1) % 3, 1);
+            x.join(14, 11);
+        }
         x.drawn(7);
         Due.is("restore", 20, x.restore());
         Due.is("restore: BUCKETS", 1, x.tableOf(0, 1));

@@ -15,6 +15,9 @@ public final class PlanBoundsTest extends Bounds {
         splitsFromTheLeast();
         firstJoinBetween();
         hashLoopAndMerge();
+        costsStepByStep(MERGE);
+        costsStepByStep(HASH);
+        costsStepByStep(LOOP);
         loopKeepsTheOrderOfA();
         mergeGivesThePlaceInA();
         mergeOfSorts();
@@ -193,6 +196,58 @@ public final class PlanBoundsTest extends Bounds {
         nodes("plan: LOOP", x, node(LOOP, 20, 0, 1, 3), node(READ, 16, 0, 0, 1), node(READ, 4, 0, 0, 1));
         Due.bits("plan: LOOP, COST", 16f + 2f * 16f, x.nodeOf(0, 3));
         Due.bits("plan: READ, COST is its LINES", 16f, x.nodeOf(1, 3));
+    }
+
+    /** THOUGHTS with rests, so that sums put together in another order would be other floats. */
+    private static void costsStepByStep(int way) {
+        int told = 0;
+        int others = 0;
+        for (int v = 1; v < 30; v++) {
+            HistogramPlans x = new HistogramPlans();
+            for (int i = 0; i < 16; i++) {
+                x.line(0, 2 * i, 0, 0);
+                x.line(1, 2 * i, 0, 0);
+            }
+            for (int t = 0; t < 2; t++) {
+                x.put(t, 0, 3);
+                x.put(t, 1, way == MERGE ? 0 : NONE);
+            }
+            for (int w = 1; w < 30; w++) {
+                x.clear();
+                x.join(0, 3);
+                x.filter(0, 2, v);
+                x.filter(3, 0, w);
+                x.plan(3, NONE);
+                if (x.nodeOf(0, 0) == way) {
+                    int a = x.nodeOf(1, 1);
+                    float one = Float.intBitsToFloat(x.thought(a));
+                    float other = Float.intBitsToFloat(x.thought(3 - a));
+                    float both = Float.intBitsToFloat(x.thought(3));
+                    float cost = costOf(way, one, other, both);
+                    Due.bits("plan: COST of WAY " + way + ", step by step", cost, x.nodeOf(0, 3));
+                    told++;
+                    others += cost == costInAnotherOrder(way, one, other, both) ? 0 : 1;
+                }
+            }
+        }
+        Due.is("plan: WAY " + way + " is told of", 1, told > 0 ? 1 : 0);
+        Due.is("plan: WAY " + way + " in another order is another float", 1, others > 0 || way == LOOP ? 1 : 0);
+    }
+
+    private static float costOf(int way, float a, float b, float both) {
+        switch (way) {
+            case HASH:
+                return (16f + 16f) + ((a + 2f * b) + both);
+            case LOOP:
+                return 16f + (a * 16f);
+            default:
+                return (16f + 16f) + ((a + b) + both);
+        }
+    }
+
+    private static float costInAnotherOrder(int way, float a, float b, float both) {
+        float second = way == HASH ? 2f * b : b;
+        return (16f + 16f) + (a + (second + both));
     }
 
     private static void loopKeepsTheOrderOfA() {

@@ -7,6 +7,8 @@ public final class ReallyBoundsTest extends Bounds {
         reallyByAllFilters();
         reallyByJoins();
         reallyByAllJoins();
+        reallyWithoutPartners();
+        reallyOfFullTables();
         reallyTooMany();
         reallyRefusals();
         sumOfNone();
@@ -180,6 +182,51 @@ public final class ReallyBoundsTest extends Bounds {
         }
         x.join(1, 7);
         Due.is("really: the eighth JOIN", 3, x.really(5));
+    }
+
+    private static void reallyWithoutPartners() {
+        HistogramPlans x = new HistogramPlans();
+        for (int v : new int[] {4, 5, 9}) {
+            x.line(0, v, v, 0);
+        }
+        x.line(1, 4, 0, 1);
+        x.line(2, 5, 0, 1);
+        x.line(2, 4, 0, 2);
+        x.join(0, 3);
+        Due.is("really: one LINE has a partner", 1, x.really(3));
+        Due.is("really: and all of another TABLE", 2, x.really(7));
+        x.join(1, 6);
+        Due.is("really: one LINE has both partners", 1, x.really(7));
+        Due.is("really: two LINES have the other", 2, x.really(5));
+        x.join(5, 8);
+        Due.is("really: no partners of one another", 0, x.really(7));
+        x.line(1, 5, 0, 1);
+        Due.is("really: partners of one another", 1, x.really(7));
+        x.empty(1);
+        Due.is("really: no partners any more", 0, x.really(7));
+        x.line(1, 4, 0, 2);
+        Due.is("really: no LINES that were", 1, x.really(7));
+    }
+
+    private static void reallyOfFullTables() {
+        HistogramPlans x = new HistogramPlans();
+        for (int i = 0; i < 16; i++) {
+            for (int t = 0; t < 5; t++) {
+                x.line(t, i, i / 8, 15 - i);
+            }
+        }
+        x.join(0, 3);
+        Due.is("really: two TABLES of 16", 16, x.really(3));
+        Due.is("really: and the next TABLE", 256, x.really(7));
+        x.join(4, 7);
+        Due.is("really: three TABLES of 16", 16 * 8, x.really(7));
+        x.join(6, 11);
+        Due.is("really: four TABLES of 16", 16 * 8, x.really(15));
+        x.join(10, 13);
+        Due.is("really: five TABLES of 16", 16 * 8 * 8, x.really(31));
+        Due.is("really: the last two", 16 * 8, x.really(24));
+        Due.is("sum: the first", 8 * 8 * 120, x.sum(31, 0));
+        Due.is("sum: the last", 16 * 8 * 8 / 2, x.sum(31, 13));
     }
 
     /** In each TABLE 10 LINES of one VALUE and so many of another, all joined: 100,000 and that many to the fifth. */

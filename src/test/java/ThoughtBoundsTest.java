@@ -141,6 +141,26 @@ public final class ThoughtBoundsTest extends Bounds {
         x = rich();
         x.clear();
         Due.is("clear: THE PLAN stays", 4, x.status(3));
+        nothingIsLeftOfCleared();
+    }
+
+    private static void nothingIsLeftOfCleared() {
+        HistogramPlans x = crowd(2);
+        x.filter(3, 0, 1);
+        x.filter(0, 0, 1);
+        x.join(3, 6);
+        x.join(0, 4);
+        x.clear();
+        Due.bits("clear: no FILTER is thought of", 4f, x.thought(3));
+        Due.is("clear: no FILTER or JOIN is passed", 8, x.really(7));
+        Due.is("clear: no JOIN is a WAY", NONE, x.cost(3, NONE));
+        x.filter(6, 1, 1);
+        x.join(3, 6);
+        Due.bits("clear: the FILTER that is told anew alone", 8f, x.thought(7));
+        Due.is("clear: the FILTER and JOIN that are told anew alone", 8, x.really(7));
+        Due.is("clear: the JOIN that is told anew is a WAY", 1, x.cost(6, NONE) == NONE ? 0 : 1);
+        Due.is("clear: the other JOIN is none", NONE, x.cost(3, NONE));
+        Due.is("clear: the other JOIN is none", NONE, x.cost(7, NONE));
     }
 
     private static void filterOfEdges() {
