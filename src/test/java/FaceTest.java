@@ -48,6 +48,10 @@ public final class FaceTest {
         Constructor<?>[] made = face.getDeclaredConstructors();
         due("one constructor", made.length == 1 && made[0].getParameterCount() == 0);
         checkInside(face, names);
+        checkFields(face);
+        for (Class<?> inside : face.getDeclaredClasses()) {
+            checkFields(inside);
+        }
         checkSource(Path.of("src/main/java/HistogramPlans.java"));
         Due.end("FaceTest");
     }
@@ -76,6 +80,20 @@ public final class FaceTest {
         }
     }
 
+    /** Some twenty fields beside constants; what is static is final, a number or a text. */
+    private static void checkFields(Class<?> type) {
+        int fields = 0;
+        for (Field f : type.getDeclaredFields()) {
+            if (Modifier.isStatic(f.getModifiers())) {
+                boolean isPlain = f.getType().isPrimitive() || f.getType() == String.class;
+                due("a constant: " + f, Modifier.isFinal(f.getModifiers()) && isPlain);
+            } else {
+                fields++;
+            }
+        }
+        due("at most twenty fields: " + type, fields <= 20);
+    }
+
     private static void checkSource(Path path) throws IOException {
         String source = Files.readString(path);
         String code = source.replaceAll("(?s)/\\*.*?\\*/", "").replaceAll("//[^\\n]*", "");
@@ -88,6 +106,26 @@ public final class FaceTest {
             due("import of " + imports.group(1), imports.group(1).equals("java.util.Arrays"));
         }
         checkNothingIsMadeByCalls(code);
+        checkMethodsAreShort(code);
+    }
+
+    /** A method ends with the first brace that stands as far in as its head. */
+    private static void checkMethodsAreShort(String code) {
+        String[] lines = code.split("\n");
+        Pattern head = Pattern.compile("( {4}| {8})(?!class|for|if|while|switch|static final class)\\w.*\\) \\{");
+        int methods = 0;
+        for (int i = 0; i < lines.length; i++) {
+            Matcher matcher = head.matcher(lines[i]);
+            if (matcher.matches()) {
+                int end = i;
+                while (end < lines.length - 1 && !lines[end].equals(matcher.group(1) + "}")) {
+                    end++;
+                }
+                methods++;
+                due("at most sixty lines: " + lines[i].trim(), end - i < 60);
+            }
+        }
+        due("methods were found", methods > 100);
     }
 
     /** All calls of a run live in one room: so what is made is made with the object, in fields and constructors. */
